@@ -191,6 +191,11 @@ public final class LiesTest {
         Check.tells("21 first", new BoxRings(), r -> r.undoes(), 0);
         BoxRings x = Check.room("boxes 2;swap 0 1;");
         Check.tells("21 of two", x, r -> r.undoes(), 1);
+        x.boxes(4);
+        x.lay(23);
+        x.undoes();
+        x.lay(0);
+        Check.tells("21 behind another", x, r -> r.undoes(), 0);
     }
 
     private static void p22GoesWith() {

@@ -70,6 +70,13 @@ public final class MayBeTest {
         x.put(1, 4);
         // By strides: BOX 0, 4, 3: at first SLIP 3 lies there.
         Check.tells("32 TURN 4, the first", x, r -> r.mayBe(0), 0);
+        x.boxes(7);
+        Check.tells("32 of seven", x, r -> r.mayBe(-1), 5040);
+        x.know(6, 0);
+        x.report(0, 1);
+        x.rule(0, 2);
+        Check.tells("32 of seven, the last box", x, r -> r.mayBe(-1), 720);
+        Check.tells("32 of seven, the first", x, r -> r.mayBe(0), 873);
         x = noWay();
         Check.tells("32 reports and what is known", x, r -> r.mayBe(-1), 0);
     }
@@ -164,6 +171,10 @@ public final class MayBeTest {
         x = Check.room("boxes 4;turn 0;");
         Check.due("35 turned by 0 is as rings: the least", x.advice(), 0);
         Check.fraction("35 turned by 0", x, 5, 12);
+        x = Check.room("boxes 3;leave 2;known 0 1;known 2 0;");
+        // 1 2 0: in a row SEEKER 0 alone misses, by rings all do.
+        Check.due("35 all but one are not all", x.advice(), 0);
+        Check.fraction("35 all but one are not all", x, 0, 1);
         x = Check.room("boxes 2;leave 2;");
         Check.due("35 all alike", x.advice(), 0);
         Check.no("35 no way", noWay(), r -> r.advice());
@@ -203,6 +214,12 @@ public final class MayBeTest {
         Check.tells("37 leave 6", x, r -> r.mended(), 1);
         x.put(0, 1);
         Check.tells("37 leave 1", x, r -> r.mended(), 6);
+        BoxRings last = Check.room("boxes 4;leave 1;turn 3;swap 0 3;swap 1 2;");
+        // Turned by 3 SEEKER s looks into BOX s - 1; mended is 1 2 3 0 alone.
+        for (int s = 0; s < 4; s++) {
+            last.rule(s, 4);
+        }
+        Check.tells("37 turned", last, r -> r.mended(), 1);
         for (int s = 0; s < 7; s++) {
             x.rule(s, 1);
         }
@@ -232,7 +249,11 @@ public final class MayBeTest {
         // A friend gives back what was swapped; an enemy takes two more.
         Check.tells("38 friend, the last pair", x, r -> r.third(0), 34);
         Check.tells("38 enemy, the first pair", x, r -> r.third(1), 1);
-        x.put(0, 2);
+        x.boxes(7);
+        x.put(0, 1);
+        x.swap(5, 6);
+        Check.tells("38 friend of seven", x, r -> r.third(0), 56);
+        x = Check.room("boxes 5;swap 3 4;");
         // A ring of two and three of one: to join them makes a ring of three.
         Check.tells("38 enemy joins", x, r -> r.third(1), 3);
         Check.bad("38 third(2)", x, r -> r.third(2));

@@ -6,6 +6,7 @@ public final class MovesTest {
         p28Make();
         p29Group();
         p30Fewest();
+        p30OfFourMoves();
         p30OfLikeOnesTheFirstRow();
         p31Till();
         Check.end();
@@ -104,6 +105,22 @@ public final class MovesTest {
         Check.badQuestion("30 rank -1", x, r -> r.fewest(-1, -1));
         Check.badQuestion("30 i -2", x, r -> r.fewest(0, -2));
         Check.tells("30 no moves", new BoxRings(), r -> r.fewest(119, -1), -1);
+    }
+
+    private static void p30OfFourMoves() {
+        // Swaps of neighbours; the fourth is that of BOXES 0 and 1.
+        BoxRings x = Check.room("boxes 5;move 1;move 2;move 6;move 24;");
+        Check.tells("30 the fourth", x, r -> r.fewest(24, 0), 3);
+        Check.tells("30 the last way turns ten pairs", x, r -> r.fewest(119, -1), 10);
+        Check.tells("30 all five", x, r -> r.group(), 120);
+        x.drop();
+        Check.tells("30 without the fourth", x, r -> r.fewest(24, -1), -1);
+        x.move(119);
+        Check.tells("30 another fourth", x, r -> r.fewest(119, 0), 3);
+        x.drop();
+        x.drop();
+        x.move(119);
+        Check.tells("30 another third", x, r -> r.fewest(119, 0), 2);
     }
 
     private static void p30OfLikeOnesTheFirstRow() {

@@ -287,6 +287,10 @@ public final class RoomTest {
         fault("b", 0);
         fault(" boxe 3;", 1);
         fault("boxess 3;", 0);
+        fault("foxes 3;", 0);
+        fault("boxes 3;burn 1;", 8);
+        fault("boxes 3;moves 1;", 8);
+        fault("boxes 3;mov 1;", 8);
         fault(";", 0);
         fault("3;", 0);
         fault("leave 1;boxes 3;", 0);

@@ -4,6 +4,7 @@ public final class ThereTest {
         p41Part();
         p42Image();
         p43From();
+        p43FromAFullRoom();
         p44Status();
         p45Count();
         p46Digest();
@@ -61,6 +62,8 @@ public final class ThereTest {
         Check.no("43 none was kept as 0", x, r -> r.from(0));
         x.boxes(3);
         x.lay(4);
+        x.lay(3);
+        x.lay(2);
         x.chance(4);
         x.look();
         Check.typed(x, "boxes");
@@ -79,6 +82,33 @@ public final class ThereTest {
         Check.no("43 no more", x, r -> r.undo());
         Check.due("43 it goes on from it again", x.from(1), 1);
         Check.due("43 the image stays", x.rank(), rank);
+    }
+
+    private static void p43FromAFullRoom() {
+        BoxRings x = Check.room("boxes 7;leave 7;turn 6;move 5039;move 5038;move 5037;move 5036;");
+        for (int s = 0; s < 7; s++) {
+            x.rule(s, 1 + s % 5);
+            x.know(s, 6 - s);
+            x.report(s, 1 + s % 3);
+        }
+        x.report(6, 7);
+        for (int rank = 1000; rank <= 1010; rank++) {
+            x.lay(rank);
+        }
+        long digest = x.digest();
+        x.image(0);
+        x.boxes(7);
+        for (int i = 0; i < 12; i++) {
+            x.swap(0, 6);
+            x.report(0, 0);
+            x.move(0);
+        }
+        x.from(0);
+        Check.due("43 of a full room", x.digest(), digest);
+        for (int rank = 1009; rank >= 1000; rank--) {
+            Check.due("43 undo of a full room", x.undo(), 1);
+            Check.due("43 undone of a full room", x.rank(), rank);
+        }
     }
 
     private static void p44Status() {
