@@ -114,6 +114,9 @@ public final class MovesTest {
         Check.tells("30 the last way turns ten pairs", x, r -> r.fewest(119, -1), 10);
         Check.tells("30 all five", x, r -> r.group(), 120);
         x.drop();
+        x.move(0);
+        Check.tells("30 nothing moves by the fourth", x, r -> r.fewest(24, -1), -1);
+        x.drop();
         Check.tells("30 without the fourth", x, r -> r.fewest(24, -1), -1);
         x.move(119);
         Check.tells("30 another fourth", x, r -> r.fewest(119, 0), 3);
