@@ -22,9 +22,11 @@ public final class EdgesTest {
         fractionOfThreeCallsAlone();
         fractionOfNought();
         likeOnes();
+        theLastWayAndTheFirst();
         noneAtAll();
         seedsThatWrapAround();
         imagesAreApart();
+        imagesLeaveWhatTheyDoNotKeep();
         imagesOfAnotherSize();
         statusOfMany();
         Check.end();
@@ -129,6 +131,14 @@ public final class EdgesTest {
         Check.due("forget", x.forget(0), 3);
         Check.due("know another", x.know(2, 2), 1);
         Check.due("know the last BOX and SLIP, forgotten ones do not stand against it", x.know(1, 0), 1);
+        for (int n = 2; n <= 7; n++) {
+            x = new BoxRings();
+            x.boxes(n);
+            Check.due("know a SLIP of the last BOX", x.know(n - 1, 0), 1);
+            Check.no("the SLIP is KNOWN, of the last BOX", x, r -> r.know(0, 0));
+            Check.due("know the BOX ahead of it", x.know(n - 2, n - 1), 1);
+            Check.due("a TEXT that says so", Check.readOf(x, "boxes " + n + ";known " + (n - 1) + " 0;known 0 0;"), -10 - 26);
+        }
     }
 
     private static void reportsUpToEight() {
@@ -151,6 +161,14 @@ public final class EdgesTest {
         Check.bad("what is dropped is no move", x, r -> r.make(3));
         Check.due("move in its place", x.move(119), 3);
         Check.due("it is another", x.make(3), 119);
+        x = new BoxRings();
+        x.move(1);
+        Check.due("GROUP of one MOVE", x.group(), 2);
+        x.drop();
+        Check.due("GROUP of none, from the same WAY", x.group(), 1);
+        Check.due("FEWEST of none, from the same WAY", x.fewest(1, -1), -1);
+        x.boxes(7);
+        Check.due("GROUP of none, from the WAY of the same RANK", x.group(), 1);
     }
 
     private static void textUpTo150Bytes() {
@@ -460,6 +478,24 @@ public final class EdgesTest {
         Check.due("how many FIND there", x.worst(1), 4);
     }
 
+    private static void theLastWayAndTheFirst() {
+        // TURN 1 of two, LEAVE 1: each finds in the other's BOX alone.
+        BoxRings x = allBy(laid(2, 0, 1), 1, 1, 4);
+        Check.tells("MENDED, all FIND in the last WAY alone", x, r -> r.mended(), 1);
+        Check.tells("FRIEND, of the last WAY", x, r -> r.third(0), 1);
+        Check.tells("WORST, the first WAY", x, r -> r.worst(0), 0);
+        x.lay(1);
+        Check.tells("MENDED, it is the last WAY", x, r -> r.mended(), 0);
+        Check.tells("ENEMY, to the first WAY", x, r -> r.third(1), 1);
+        x.put(1, 2);
+        Check.tells("MENDED, all FIND in the first WAY alone", x, r -> r.mended(), 1);
+        Check.tells("WORST, the last WAY", x, r -> r.worst(0), 1);
+        x.boxes(7);
+        x.put(0, 7);
+        Check.tells("ENEMY of seven: none, nobody can miss", x, r -> r.third(1), -1);
+        Check.tells("FRIEND of seven: none, all FIND", x, r -> r.third(0), -1);
+    }
+
     private static void noneAtAll() {
         BoxRings x = laid(3, 0, 1, 2);
         Check.tells("FRIEND: none, all FIND", x, r -> r.third(0), -1);
@@ -548,6 +584,33 @@ public final class EdgesTest {
         x.image(1);
         x.from(1);
         Check.due("an IMAGE takes the other's place", x.count(7), 0);
+    }
+
+    private static void imagesLeaveWhatTheyDoNotKeep() {
+        BoxRings x = new BoxRings();
+        x.image(0);
+        x.slip(5);
+        x.slip(5);
+        x.undo();
+        for (int i = 0; i < 5; i++) {
+            x.move(0);
+        }
+        x.image(1);
+        Check.typed(x, "boxes 6;");
+        x.chance(1);
+        for (int image = 0; image < 2; image++) {
+            x.from(image);
+            Check.due("it goes on from an IMAGE, BAD stays", x.status(0), 2);
+            Check.due("it goes on from an IMAGE, NO stays", x.status(1), 1);
+            Check.due("it goes on from an IMAGE, FULL stays", x.status(2), 1);
+            Check.fraction("it goes on from an IMAGE, THE FRACTION stays", x, 2, 5);
+            Check.due("it goes on from an IMAGE, THE TEXT stays", x.count(6), 8);
+            x.image(image);
+        }
+        Check.due("THE TEXT is as it was", x.read(), 1);
+        Check.due("a ROOM that is read leaves IMAGES", x.from(0), 1);
+        Check.due("a ROOM that is read leaves IMAGES", x.count(0), 5);
+        Check.due("and STATUS", x.status(0) + x.status(1) + x.status(2), 4);
     }
 
     private static void imagesOfAnotherSize() {

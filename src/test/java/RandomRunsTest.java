@@ -97,7 +97,7 @@ public final class RandomRunsTest {
     }
 
     private int[] arguments(String name) {
-        int n = real.count(0);
+        int n = model.count(0);
         int ways = 1;
         for (int i = 2; i <= n; i++) {
             ways *= i;
@@ -118,7 +118,7 @@ public final class RandomRunsTest {
             case "opened": return new int[] {within(0, n - 1), within(-1, 3)};
             case "worked": return new int[] {within(0, 99)};
             case "roots": return new int[] {within(2, 9)};
-            case "make": return new int[] {within(0, Math.max(0, real.count(7) - 1))};
+            case "make": return new int[] {within(0, Math.max(0, model.count(7) - 1))};
             case "fewest": return new int[] {within(0, ways - 1), within(-1, 3)};
             case "till": return new int[] {within(-1, 2)};
             case "mayBe": return new int[] {random.nextInt(2) == 0 ? -1 : within(-1, ways - 1)};

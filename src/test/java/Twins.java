@@ -75,11 +75,10 @@ final class Twins {
         BoxRings other = making.made();
         String name = what + ", " + call;
         Check.due(name, answer(asked, call), due);
-        for (int s = 0; s < 3; s++) {
-            Check.due(name + ": status(" + s + ") behind it", asked.status(s), other.status(s) + (s == status ? 1 : 0));
-        }
+        statusIsAlike(name, asked, other, status);
         List<String> one = life(asked);
         List<String> two = life(other);
+        statusIsAlike(name + ", far behind it", asked, other, status);
         for (int i = 0; i < Math.min(one.size(), two.size()); i++) {
             if (!one.get(i).equals(two.get(i))) {
                 Check.due(name + ": behind it " + one.get(i) + " for " + two.get(i), 1, 0);
@@ -87,6 +86,12 @@ final class Twins {
             }
         }
         Check.due(name + ": answers behind it", one.size(), two.size());
+    }
+
+    private static void statusIsAlike(String name, BoxRings asked, BoxRings other, int status) {
+        for (int s = 0; s < 3; s++) {
+            Check.due(name + ": status(" + s + ")", asked.status(s), other.status(s) + (s == status ? 1 : 0));
+        }
     }
 
     /** All that calls can tell of an object but STATUS; it is used up by them. */
