@@ -1353,9 +1353,9 @@ public final class BoxRings {
             tokenStart = at;
             if (at >= length) {
                 tokenKind = AT_END;
-            } else if (isWithin('a', 'z')) {
+            } else if (isWithin(bytes[at], 'a', 'z')) {
                 takeWord();
-            } else if (isWithin('0', '9')) {
+            } else if (isWithin(bytes[at], '0', '9')) {
                 takeFigures();
             } else {
                 tokenKind = bytes[at] == ';' ? ITEM_END : BROKEN;
@@ -1363,20 +1363,20 @@ public final class BoxRings {
             }
         }
 
-        private boolean isWithin(char low, char high) {
-            return at < length && bytes[at] >= low && bytes[at] <= high;
+        private static boolean isWithin(byte sign, char low, char high) {
+            return sign >= low && sign <= high;
         }
 
         private void takeWord() {
             tokenKind = WORD;
-            while (isWithin('a', 'z')) {
+            while (at < length && isWithin(bytes[at], 'a', 'z')) {
                 at++;
             }
         }
 
         private void takeFigures() {
             tokenNumber = 0;
-            while (isWithin('0', '9')) {
+            while (at < length && isWithin(bytes[at], '0', '9')) {
                 // Kept short, or a long run of figures would wrap around.
                 tokenNumber = Math.min(GREATEST_NUMBER, 10 * tokenNumber + bytes[at] - '0');
                 at++;

@@ -7,11 +7,13 @@ public final class EdgesTest {
         turnedBehindTheLastOne();
         strideNextOneBehindThatWasNotOpened();
         rulesOfTwoBoxes();
+        evenOnesThenTheOthers();
         foundAtTheLastThatMayBeOpened();
         oneRingAndAsManyRingsAsBoxes();
         workedAsOftenAsBack();
         knownUpToAll();
         reportsUpToEight();
+        mayBeRising();
         reportsByWhatIsSoNow();
         movesUpToFour();
         makesUpToTenThatMayBeUndone();
@@ -260,6 +262,16 @@ public final class EdgesTest {
         }
     }
 
+    private static void evenOnesThenTheOthers() {
+        opens(allBy(laid(3, 0, 2, 1), 3, 1, 3), 2, 0, 2, 1);
+        opens(allBy(laid(3, 0, 2, 1), 3, 1, 3), 1, 0, 2);
+        opens(allBy(laid(4, 0, 1, 2, 3), 4, 1, 3), 3, 0, 2, 1, 3);
+        opens(allBy(laid(5, 0, 1, 2, 3, 4), 5, 1, 3), 3, 0, 2, 4, 1, 3);
+        opens(allBy(laid(5, 0, 1, 2, 3, 4), 3, 1, 3), 3, 0, 2, 4);
+        opens(allBy(laid(3, 0, 1, 2), 3, 1, 2), 0, 2, 1, 0);
+        opens(allBy(laid(4, 0, 1, 2, 3), 3, 1, 2), 0, 3, 2, 1);
+    }
+
     private static void foundAtTheLastThatMayBeOpened() {
         for (int leave = 1; leave <= 7; leave++) {
             BoxRings x = allBy(laid(7, 0, 1, 2, 3, 4, 5, 6), leave, 1, 1);
@@ -393,6 +405,30 @@ public final class EdgesTest {
     }
 
     // ---- what may be
+
+    private static void mayBeRising() {
+        BoxRings x = new BoxRings();
+        x.boxes(4);
+        x.know(1, 2);
+        // 0 2 1 3, 0 2 3 1, 1 2 0 3, 1 2 3 0, 3 2 0 1, 3 2 1 0.
+        int[] ranks = {2, 3, 8, 9, 22, 23};
+        Check.tells("how many MAY BE", x, r -> r.mayBe(-1), ranks.length);
+        for (int i = 0; i < ranks.length; i++) {
+            int at = i;
+            Check.tells("MAY BE, rising", x, r -> r.mayBe(at), ranks[at]);
+        }
+        Check.tells("not so many MAY BE", x, r -> r.mayBe(6), -5);
+        x.report(1, 0);
+        // SEEKER 1 MISSED: in 0 2 1 3 and 3 2 1 0 he finds by the second.
+        Check.tells("how many MAY BE yet", x, r -> r.mayBe(-1), 4);
+        Check.tells("the first is another", x, r -> r.mayBe(0), 3);
+        Check.tells("so is the last", x, r -> r.mayBe(3), 22);
+        Check.tells("not so many MAY BE", x, r -> r.mayBe(4), -5);
+        x.know(0, 0);
+        x.report(1, 2);
+        Check.tells("none MAY BE", x, r -> r.mayBe(-1), 0);
+        Check.tells("not one", x, r -> r.mayBe(0), -5);
+    }
 
     private static void reportsByWhatIsSoNow() {
         BoxRings x = new BoxRings();
