@@ -1151,7 +1151,8 @@ public final class BoxRings {
             Arrays.fill(origins, NONE);
             count = 0;
             add(room.rankNow(), START);
-            for (int p = 0; p < count; p++) {
+            // The row grows as it is walked: by MOST_WAYS its end is seen.
+            for (int p = 0; p < count && p < MOST_WAYS; p++) {
                 int rank = row[p];
                 Ways.setToRank(slips, n, rank);
                 for (int m = 0; m < room.moveCount; m++) {

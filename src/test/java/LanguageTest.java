@@ -32,6 +32,7 @@ public final class LanguageTest {
             Check.due("import of " + imports.group(1) + " is allowed", allowed ? 1 : 0, 1);
         }
         methodsAreShort(words);
+        loopsShowTheirEnd(words);
         List<Class<?>> classes = new ArrayList<>(List.of(BoxRings.class.getDeclaredClasses()));
         classes.add(BoxRings.class);
         Check.due("no more than twelve classes", classes.size() <= 12 ? 1 : 0, 1);
@@ -56,6 +57,18 @@ public final class LanguageTest {
                 }
                 Check.due(lines[i].trim() + " has some sixty lines at most", end - i <= 60 ? 1 : 0, 1);
             }
+        }
+    }
+
+    /** Rule 9: what a body may move on itself, as a row does that grows while it is walked, is no bound by itself. */
+    private static void loopsShowTheirEnd(String words) {
+        Matcher loops = Pattern.compile("\\bfor \\(int \\w+ = [^;]*; \\w+ <=? count; ").matcher(words);
+        while (loops.find()) {
+            Check.due("'" + loops.group() + "..' shows its end", 0, 1);
+        }
+        Matcher endless = Pattern.compile("\\bwhile \\(true\\)|\\bfor \\([^;]*; ?;").matcher(words);
+        while (endless.find()) {
+            Check.due("'" + endless.group() + "..' shows its end", 0, 1);
         }
     }
 
