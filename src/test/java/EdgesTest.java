@@ -554,6 +554,15 @@ public final class EdgesTest {
         x.know(1, 1);
         x.know(2, 2);
         Check.tells("BEST LOOK: none", x, r -> r.look(), -1);
+        // One SWAP and a RING of seven lead to all 5040 WAYS; in a row, with LEAVE 6, one SEEKER misses in each.
+        x = allBy(laid(7, 0, 1, 2, 3, 4, 5, 6), 6, 1, 1);
+        x.move(1);
+        x.move(873);
+        Check.tells("GROUP: all WAYS", x, r -> r.group(), 5040);
+        Check.tells("till all FIND: none of all WAYS", x, r -> r.till(-1), -1);
+        Check.tells("till all FIND: none of all WAYS", x, r -> r.till(0), -1);
+        x.put(0, 7);
+        Check.tells("till all FIND: they do", x, r -> r.till(-1), 0);
     }
 
     private static void seedsThatWrapAround() {
